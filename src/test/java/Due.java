@@ -59,11 +59,10 @@ final class Due {
         int i = 0;
         while (i < row.length) {
             int op = OPS.indexOf(row[i]);
-            if (op < 0) {
-                throw new IllegalArgumentException(row[i]);
-            }
             boolean hasA = !WITHOUT_A.contains(row[i]);
-            yard.token(op, hasA ? Integer.parseInt(row[i + 1]) : 0);
+            if (yard.token(op, hasA ? Integer.parseInt(row[i + 1]) : 0) < 0) {
+                throw new IllegalArgumentException("no token, or one too many: " + row[i] + " in " + words);
+            }
             i += hasA ? 2 : 1;
         }
     }
