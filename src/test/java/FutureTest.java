@@ -52,6 +52,12 @@ public final class FutureTest {
         ends("FIRST FAIL 1 GIVE 2", FAILED, 1);
         ends("FIRST SLEEP 1 GIVE 2", DONE, 2);
         ends("FIRST SLEEP 1 FAIL 2", FAILED, 2);
+        for (String whole : new String[] {"CATCH ", "WITHIN 9 ", "ADD 0 "}) {
+            ends(whole.repeat(11) + "GIVE 6", DONE, 6);
+        }
+        ends("THEN GIVE 1 THEN GIVE 1 THEN GIVE 1 THEN GIVE 1 THEN GIVE 1 GIVE 8", DONE, 8);
+        ends("FIRST FIRST FIRST FIRST FIRST GIVE 7 GIVE 1 GIVE 1 GIVE 1 GIVE 1 GIVE 1", DONE, 7);
+        ends("BOTH BOTH BOTH GIVE 1 GIVE 2 GIVE 4 BOTH GIVE 8 BOTH GIVE 16 GIVE 32", DONE, 63);
     }
 
     private static void ends(String words, int standing, int outcome) {
@@ -207,6 +213,18 @@ public final class FutureTest {
         yard.turn(0);
         Due.task(yard, 0, DONE, -6, 2);
         Due.is("gate(0, 0)", yard.gate(0, 0), 1);
+
+        // X fails while Y waits: Y gives back what it got
+        yard = new PollYard();
+        Due.spawn(yard, "BOTH THEN SLEEP 1 FAIL 5 BOTH TAKE 2 WAIT 1");
+        yard.turn(0);
+        Due.is("gate(0, 2)", yard.gate(0, 2), 1);
+        yard.tick(1);
+        yard.turn(0);
+        Due.task(yard, 0, FAILED, 5);
+        Due.is("gate(0, 0)", yard.gate(0, 0), 1);
+        Due.is("gate(0, 1)", yard.gate(0, 1), 0);
+        Due.is("gate(1, 4)", yard.gate(1, 4), 0);
 
         // what is ready keeps what it has
         yard = new PollYard();

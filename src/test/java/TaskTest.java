@@ -14,6 +14,7 @@ public final class TaskTest {
         abortGivesNoticeAgain();
         abortWakesReapers();
         abortDropsBeforeItWakes();
+        abortKeepsWhatIsReady();
         Due.end();
     }
 
@@ -224,5 +225,24 @@ public final class TaskTest {
         Due.is("gate(0, 0)", yard.gate(0, 0), 0);
         Due.is("gate(0, 1)", yard.gate(0, 1), 0);
         Due.task(yard, 0, CANCELLED, 0, 1, 0, 4, 0);
+    }
+
+    /** What a part was ready with is used up: only what is not ready gives back. */
+    private static void abortKeepsWhatIsReady() {
+        PollYard yard = new PollYard();
+        yard.wake(0);
+        yard.tick(1);
+        Due.spawn(yard, "BOTH BOTH WAIT 0 WAIT 1 BOTH TAKE 0 BOTH TAKE 3 SLEEP 9");
+        yard.turn(0);
+        Due.is("wake(1)", yard.wake(1), 1);
+        Due.is("put(1, 1)", yard.put(1, 1), 0);
+        yard.turn(0);
+        Due.task(yard, 0, IDLE, 0, 2, 0, 2);
+        Due.is("abort(0)", yard.abort(0), true);
+        for (int g = 0; g < 2; g++) {
+            for (int what = 0; what < 5; what++) {
+                Due.is("gate(" + g + ", " + what + ")", yard.gate(g, what), 0);
+            }
+        }
     }
 }
