@@ -30,6 +30,8 @@ public final class FutureTest {
         ends("PUT 5", DONE, 0);
         ends("WAKE 1", DONE, 0);
         ends("THEN WAKE 1 WAIT 1", DONE, 1);
+        ends("SPAWN 0", DONE, 1);
+        ends("SPAWN 1", DONE, -1);
         ends("FAIL 1", FAILED, 1);
         ends("FAIL 97", FAILED, 97);
         ends("ADD 5 GIVE 3", DONE, 8);
