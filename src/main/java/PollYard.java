@@ -12,6 +12,8 @@ public final class PollYard {
     private static final int POLLED = 5;
 
     private static final int MOST_TOKENS = 12, MOST_PROGRAMS = 6, MOST_TASKS = 12;
+    /** Parts that wait have no parts: of twelve tokens six can, since the others must join them. */
+    private static final int MOST_WAITING = MOST_TASKS * MOST_TOKENS / 2;
     private static final int WORKERS = 3, RING_ROOM = 4, UNITS = 4, MOST_SLOT_TURNS = 2, INJECTOR_EVERY = 5;
     private static final int NONE = -1, NOTHING_POLLED = -2;
     private static final int NO_SUCH_TASK = 98, WAS_CANCELLED = 99;
@@ -880,13 +882,13 @@ public final class PollYard {
 
     /** Permits, and the places of the TAKEs that wait for them. */
     private static final class Gate {
-        final Row waiting = new Row(MOST_TASKS * MOST_TOKENS);
+        final Row waiting = new Row(MOST_WAITING);
         int permits = 1;
     }
 
     /** A notice, and the places of the WAITs that wait for it. */
     private static final class Notice {
-        final Row waiting = new Row(MOST_TASKS * MOST_TOKENS);
+        final Row waiting = new Row(MOST_WAITING);
         boolean kept = false;
     }
 }

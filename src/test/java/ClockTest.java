@@ -158,24 +158,18 @@ public final class ClockTest {
         yard.spawn(0);
         Due.tokens(yard, "THEN GIVE 1 GIVE 2");
         yard.tick(7);
-        due(yard, 2, 2, 2, 7, 0, 2, 0, 3);
+        Due.counts(yard, 2, 2, 2, 7, 0, 2, 0, 3);
         yard.turn(0);
-        due(yard, 2, 4, 4, 7, 1, 1, 0, 3);
+        Due.counts(yard, 2, 4, 4, 7, 1, 1, 0, 3);
         Due.is("run(3)", yard.run(3), 3);
-        due(yard, 2, 4, 1, 7, 4, 0, 1, 3);
+        Due.counts(yard, 2, 4, 1, 7, 4, 0, 1, 3);
         Due.is("run(3)", yard.run(3), 1);
-        due(yard, 2, 4, 0, 7, 5, 0, 1, 3);
+        Due.counts(yard, 2, 4, 0, 7, 5, 0, 1, 3);
         yard.spawn(0);
         yard.abort(4);
-        due(yard, 2, 5, 0, 7, 5, 0, 1, 3);
+        Due.counts(yard, 2, 5, 0, 7, 5, 0, 1, 3);
         for (int wrong : new int[] {-1, 8, Integer.MIN_VALUE, Integer.MAX_VALUE}) {
             Due.is("count(" + wrong + ")", yard.count(wrong), PollYard.REFUSED);
-        }
-    }
-
-    private static void due(PollYard yard, int... wants) {
-        for (int what = 0; what < wants.length; what++) {
-            Due.is("count(" + what + ")", yard.count(what), wants[what]);
         }
     }
 }

@@ -8,6 +8,8 @@ final class Due {
             "REAP", "FAIL", "THEN", "BOTH", "FIRST", "WITHIN", "ADD", "CATCH");
     private static final List<String> WITHOUT_A = Arrays.asList("REAP", "THEN", "BOTH", "FIRST", "CATCH");
 
+    static final int SIGHT_CALLS = 12 * 6 + 3 * 8 + 12 + 2 * 5 + 8;
+
     private static int wrong = 0;
 
     private Due() {
@@ -40,6 +42,20 @@ final class Due {
         }
     }
 
+    /** The answers of gate(g, 0) to gate(g, 4), as far as they are given. */
+    static void gate(PollYard yard, int g, int... wants) {
+        for (int what = 0; what < wants.length; what++) {
+            is("gate(" + g + ", " + what + ")", yard.gate(g, what), wants[what]);
+        }
+    }
+
+    /** The answers of count(0) to count(7), as far as they are given. */
+    static void counts(PollYard yard, int... wants) {
+        for (int what = 0; what < wants.length; what++) {
+            is("count(" + what + ")", yard.count(what), wants[what]);
+        }
+    }
+
     static void injector(PollYard yard, int... wants) {
         is("count(5)", yard.count(5), wants.length);
         for (int k = 0; k < wants.length; k++) {
@@ -69,7 +85,52 @@ final class Due {
 
     /** A new task of a new program that the words say: its number. */
     static int spawn(PollYard yard, String words) {
-        return yard.spawn(program(yard, words));
+        int program = program(yard, words);
+        if (program < 0) {
+            throw new IllegalArgumentException("no future, or one too many: " + words);
+        }
+        return yard.spawn(program);
+    }
+
+    /** The words name a future that ends with its first polling, as the only task of a new yard. */
+    static void ends(String words, int standing, int outcome) {
+        PollYard yard = new PollYard();
+        spawn(yard, words);
+        is("turn(0) of " + words, yard.turn(0), 0);
+        is("task(0, 0) of " + words, yard.task(0, 0), standing);
+        is("task(0, 1) of " + words, yard.task(0, 1), outcome);
+    }
+
+    /** All that a yard tells of itself, by SIGHT_CALLS calls. */
+    static String sight(PollYard yard) {
+        StringBuilder told = new StringBuilder();
+        for (int t = 0; t < 12; t++) {
+            for (int what = 0; what < 6; what++) {
+                told.append(yard.task(t, what)).append(what < 5 ? " " : "; ");
+            }
+        }
+        for (int w = 0; w < 3; w++) {
+            for (int what = 0; what < 8; what++) {
+                told.append(yard.worker(w, what)).append(what < 7 ? " " : "; ");
+            }
+        }
+        for (int k = 0; k < 12; k++) {
+            told.append(yard.injected(k)).append(k < 11 ? " " : "; ");
+        }
+        for (int what = 0; what < 5; what++) {
+            told.append(yard.gate(0, what)).append(' ').append(yard.gate(1, what)).append(what < 4 ? " " : "; ");
+        }
+        for (int what = 0; what < 8; what++) {
+            told.append(yard.count(what)).append(' ');
+        }
+        return told.toString();
+    }
+
+    static void same(String what, String got, String want) {
+        if (!got.equals(want)) {
+            wrong++;
+            System.out.println(what + " shows\n  " + got + "\ndue is\n  " + want);
+        }
     }
 
     static void end() {

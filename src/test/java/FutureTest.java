@@ -22,52 +22,44 @@ public final class FutureTest {
 
     /** Futures that end with their first polling. */
     private static void atOnce() {
-        ends("GIVE -7", DONE, -7);
-        ends("GIVE 2147483647", DONE, 2147483647);
-        ends("TURN 0", DONE, 0);
-        ends("TAKE 0", DONE, 1);
-        ends("TAKE 1", DONE, 1);
-        ends("PUT 5", DONE, 0);
-        ends("WAKE 1", DONE, 0);
-        ends("THEN WAKE 1 WAIT 1", DONE, 1);
-        ends("SPAWN 0", DONE, 1);
-        ends("SPAWN 1", DONE, -1);
-        ends("FAIL 1", FAILED, 1);
-        ends("FAIL 97", FAILED, 97);
-        ends("ADD 5 GIVE 3", DONE, 8);
-        ends("ADD 1 GIVE 2147483647", DONE, -2147483648);
-        ends("BOTH GIVE -2147483648 GIVE -1", DONE, 2147483647);
-        ends("ADD 5 FAIL 3", FAILED, 3);
-        ends("CATCH FAIL 9", DONE, -9);
-        ends("CATCH GIVE 9", DONE, 9);
-        ends("CATCH ADD 1 THEN FAIL 9 GIVE 1", DONE, -9);
-        ends("THEN CATCH FAIL 9 FAIL 8", FAILED, 8);
-        ends("WITHIN 1 GIVE 4", DONE, 4);
-        ends("WITHIN 1 FAIL 4", FAILED, 4);
-        ends("REAP FAIL 4", FAILED, 4);
-        ends("THEN GIVE 1 GIVE 2", DONE, 2);
-        ends("THEN FAIL 1 GIVE 2", FAILED, 1);
-        ends("BOTH GIVE 1 GIVE 2", DONE, 3);
-        ends("BOTH FAIL 1 FAIL 2", FAILED, 1);
-        ends("BOTH GIVE 1 FAIL 2", FAILED, 2);
-        ends("FIRST GIVE 1 GIVE 2", DONE, 1);
-        ends("FIRST FAIL 1 GIVE 2", FAILED, 1);
-        ends("FIRST SLEEP 1 GIVE 2", DONE, 2);
-        ends("FIRST SLEEP 1 FAIL 2", FAILED, 2);
+        Due.ends("GIVE -7", DONE, -7);
+        Due.ends("GIVE 2147483647", DONE, 2147483647);
+        Due.ends("TURN 0", DONE, 0);
+        Due.ends("TAKE 0", DONE, 1);
+        Due.ends("TAKE 1", DONE, 1);
+        Due.ends("PUT 5", DONE, 0);
+        Due.ends("WAKE 1", DONE, 0);
+        Due.ends("THEN WAKE 1 WAIT 1", DONE, 1);
+        Due.ends("SPAWN 0", DONE, 1);
+        Due.ends("SPAWN 1", DONE, -1);
+        Due.ends("FAIL 1", FAILED, 1);
+        Due.ends("FAIL 97", FAILED, 97);
+        Due.ends("ADD 5 GIVE 3", DONE, 8);
+        Due.ends("ADD 1 GIVE 2147483647", DONE, -2147483648);
+        Due.ends("BOTH GIVE -2147483648 GIVE -1", DONE, 2147483647);
+        Due.ends("ADD 5 FAIL 3", FAILED, 3);
+        Due.ends("CATCH FAIL 9", DONE, -9);
+        Due.ends("CATCH GIVE 9", DONE, 9);
+        Due.ends("CATCH ADD 1 THEN FAIL 9 GIVE 1", DONE, -9);
+        Due.ends("THEN CATCH FAIL 9 FAIL 8", FAILED, 8);
+        Due.ends("WITHIN 1 GIVE 4", DONE, 4);
+        Due.ends("WITHIN 1 FAIL 4", FAILED, 4);
+        Due.ends("REAP FAIL 4", FAILED, 4);
+        Due.ends("THEN GIVE 1 GIVE 2", DONE, 2);
+        Due.ends("THEN FAIL 1 GIVE 2", FAILED, 1);
+        Due.ends("BOTH GIVE 1 GIVE 2", DONE, 3);
+        Due.ends("BOTH FAIL 1 FAIL 2", FAILED, 1);
+        Due.ends("BOTH GIVE 1 FAIL 2", FAILED, 2);
+        Due.ends("FIRST GIVE 1 GIVE 2", DONE, 1);
+        Due.ends("FIRST FAIL 1 GIVE 2", FAILED, 1);
+        Due.ends("FIRST SLEEP 1 GIVE 2", DONE, 2);
+        Due.ends("FIRST SLEEP 1 FAIL 2", FAILED, 2);
         for (String whole : new String[] {"CATCH ", "WITHIN 9 ", "ADD 0 "}) {
-            ends(whole.repeat(11) + "GIVE 6", DONE, 6);
+            Due.ends(whole.repeat(11) + "GIVE 6", DONE, 6);
         }
-        ends("THEN GIVE 1 THEN GIVE 1 THEN GIVE 1 THEN GIVE 1 THEN GIVE 1 GIVE 8", DONE, 8);
-        ends("FIRST FIRST FIRST FIRST FIRST GIVE 7 GIVE 1 GIVE 1 GIVE 1 GIVE 1 GIVE 1", DONE, 7);
-        ends("BOTH BOTH BOTH GIVE 1 GIVE 2 GIVE 4 BOTH GIVE 8 BOTH GIVE 16 GIVE 32", DONE, 63);
-    }
-
-    private static void ends(String words, int standing, int outcome) {
-        PollYard yard = new PollYard();
-        Due.spawn(yard, words);
-        Due.is("turn(0) of " + words, yard.turn(0), 0);
-        Due.is("task(0, 0) of " + words, yard.task(0, 0), standing);
-        Due.is("task(0, 1) of " + words, yard.task(0, 1), outcome);
+        Due.ends("THEN GIVE 1 THEN GIVE 1 THEN GIVE 1 THEN GIVE 1 THEN GIVE 1 GIVE 8", DONE, 8);
+        Due.ends("FIRST FIRST FIRST FIRST FIRST GIVE 7 GIVE 1 GIVE 1 GIVE 1 GIVE 1 GIVE 1", DONE, 7);
+        Due.ends("BOTH BOTH BOTH GIVE 1 GIVE 2 GIVE 4 BOTH GIVE 8 BOTH GIVE 16 GIVE 32", DONE, 63);
     }
 
     private static void turns() {
@@ -149,12 +141,12 @@ public final class FutureTest {
     }
 
     private static void reapOfWhatIsNot() {
-        ends("REAP GIVE 0", FAILED, 98);
-        ends("REAP GIVE 1", FAILED, 98);
-        ends("REAP GIVE -1", FAILED, 98);
-        ends("REAP GIVE 2147483647", FAILED, 98);
-        ends("REAP GIVE -2147483648", FAILED, 98);
-        ends("REAP SPAWN 3", FAILED, 98);
+        Due.ends("REAP GIVE 0", FAILED, 98);
+        Due.ends("REAP GIVE 1", FAILED, 98);
+        Due.ends("REAP GIVE -1", FAILED, 98);
+        Due.ends("REAP GIVE 2147483647", FAILED, 98);
+        Due.ends("REAP GIVE -2147483648", FAILED, 98);
+        Due.ends("REAP SPAWN 3", FAILED, 98);
         PollYard yard = new PollYard();
         Due.spawn(yard, "SLEEP 9");
         Due.spawn(yard, "REAP GIVE 0");
@@ -193,7 +185,7 @@ public final class FutureTest {
         yard.turn(0);
         Due.task(yard, 0, DONE, 0, 3);
         Due.is("gate(0, 0)", yard.gate(0, 0), 3);
-        ends("BOTH TAKE 0 ADD 10 TAKE 1", DONE, 12);
+        Due.ends("BOTH TAKE 0 ADD 10 TAKE 1", DONE, 12);
     }
 
     private static void bothDropsWhatElse() {

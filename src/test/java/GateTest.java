@@ -29,14 +29,8 @@ public final class GateTest {
         for (int wrong : new int[] {-1, 5, Integer.MIN_VALUE, Integer.MAX_VALUE}) {
             Due.is("gate(0, " + wrong + ")", yard.gate(0, wrong), PollYard.REFUSED);
         }
-        gate(yard, 0, 1, 0, 0, 0, 0);
-        gate(yard, 1, 1, 0, 0, 0, 0);
-    }
-
-    private static void gate(PollYard yard, int g, int... wants) {
-        for (int what = 0; what < wants.length; what++) {
-            Due.is("gate(" + g + ", " + what + ")", yard.gate(g, what), wants[what]);
-        }
+        Due.gate(yard, 0, 1, 0, 0, 0, 0);
+        Due.gate(yard, 1, 1, 0, 0, 0, 0);
     }
 
     private static void puts() {
@@ -44,8 +38,8 @@ public final class GateTest {
         Due.is("put(0, 9)", yard.put(0, 9), 10);
         Due.is("put(0, 1)", yard.put(0, 1), 11);
         Due.is("put(1, 4)", yard.put(1, 4), 5);
-        gate(yard, 0, 11, 0, 0, 0, 0);
-        gate(yard, 1, 5, 0, 0, 0, 0);
+        Due.gate(yard, 0, 11, 0, 0, 0, 0);
+        Due.gate(yard, 1, 5, 0, 0, 0, 0);
     }
 
     private static void permitsInOrder() {
@@ -55,20 +49,20 @@ public final class GateTest {
         yard.spawn(0);
         yard.spawn(1);
         Due.is("run(2)", yard.run(2), 2);
-        gate(yard, 0, 0, 2, 1);
+        Due.gate(yard, 0, 0, 2, 1);
         Due.is("put(0, 1)", yard.put(0, 1), 0);
-        gate(yard, 0, 0, 2, 2);
+        Due.gate(yard, 0, 0, 2, 2);
         Due.injector(yard);
         Due.is("put(0, 2)", yard.put(0, 2), 0);
-        gate(yard, 0, 0, 1, 1);
+        Due.gate(yard, 0, 0, 1, 1);
         Due.injector(yard, 0);
         Due.is("put(0, 5)", yard.put(0, 5), 4);
-        gate(yard, 0, 4, 0, 0);
+        Due.gate(yard, 0, 4, 0, 0);
         Due.injector(yard, 0, 1);
         Due.is("run(2)", yard.run(2), 2);
         Due.task(yard, 0, DONE, 3, 2, 0, 3);
         Due.task(yard, 1, DONE, 2, 2, 1, 3);
-        gate(yard, 0, 4, 0, 0);
+        Due.gate(yard, 0, 4, 0, 0);
     }
 
     private static void oneForMany() {
@@ -78,12 +72,12 @@ public final class GateTest {
             yard.spawn(0);
         }
         Due.is("run(5)", yard.run(5), 5);
-        gate(yard, 1, 0, 4, 0);
+        Due.gate(yard, 1, 0, 4, 0);
         Due.is("put(1, 3)", yard.put(1, 3), 0);
-        gate(yard, 1, 0, 1, 0);
+        Due.gate(yard, 1, 0, 1, 0);
         Due.injector(yard, 1, 2, 3);
         Due.is("put(1, 1)", yard.put(1, 1), 0);
-        gate(yard, 1, 0, 0, 0);
+        Due.gate(yard, 1, 0, 0, 0);
         Due.injector(yard, 1, 2, 3, 4);
     }
 
@@ -96,10 +90,10 @@ public final class GateTest {
         Due.is("put(0, 1)", yard.put(0, 1), 0);
         Due.is("run(1)", yard.run(1), 1);
         Due.task(yard, 1, IDLE, 0, 1);
-        gate(yard, 0, 0, 2, 2);
+        Due.gate(yard, 0, 0, 2, 2);
         Due.is("put(0, 1)", yard.put(0, 1), 0);
         Due.injector(yard, 0);
-        gate(yard, 0, 0, 1, 0);
+        Due.gate(yard, 0, 0, 1, 0);
         Due.is("put(0, 1)", yard.put(0, 1), 0);
         Due.injector(yard, 0, 1);
     }
@@ -119,7 +113,7 @@ public final class GateTest {
         Due.is("run(2)", yard.run(2), 2);
         Due.is("turn(2)", yard.turn(2), 2);
         Due.worker(yard, 2, 1, 0);
-        gate(yard, 0, 1, 0, 0);
+        Due.gate(yard, 0, 1, 0, 0);
 
         // a task that adds what it waits for itself is noted
         yard = new PollYard();
@@ -146,7 +140,7 @@ public final class GateTest {
         Due.spawn(yard, "TAKE 4");
         yard.turn(0);
         Due.task(yard, 0, IDLE, 0, 1, 0, 4);
-        gate(yard, 0, 0, 1, 2);
+        Due.gate(yard, 0, 0, 1, 2);
     }
 
     private static void notices() {
@@ -155,8 +149,8 @@ public final class GateTest {
         Due.program(yard, "WAIT 1");
         Due.is("wake(1)", yard.wake(1), 0);
         Due.is("wake(1)", yard.wake(1), 0);
-        gate(yard, 0, 1, 0, 0, 0, 0);
-        gate(yard, 1, 1, 0, 0, 1, 0);
+        Due.gate(yard, 0, 1, 0, 0, 0, 0);
+        Due.gate(yard, 1, 1, 0, 0, 1, 0);
         yard.spawn(1);
         yard.spawn(1);
         yard.spawn(0);
@@ -165,19 +159,19 @@ public final class GateTest {
         // however often it was given, it was kept once
         Due.task(yard, 0, DONE, 1, 1, 1, 3);
         Due.task(yard, 1, IDLE, 0, 1, 1, 4);
-        gate(yard, 0, 1, 0, 0, 0, 1);
-        gate(yard, 1, 1, 0, 0, 0, 2);
+        Due.gate(yard, 0, 1, 0, 0, 0, 1);
+        Due.gate(yard, 1, 1, 0, 0, 0, 2);
         Due.is("wake(1)", yard.wake(1), 1);
         Due.injector(yard, 1);
-        gate(yard, 1, 1, 0, 0, 0, 1);
+        Due.gate(yard, 1, 1, 0, 0, 0, 1);
         Due.is("wake(1)", yard.wake(1), 1);
         Due.injector(yard, 1, 3);
         Due.is("wake(1)", yard.wake(1), 0);
-        gate(yard, 1, 1, 0, 0, 1, 0);
+        Due.gate(yard, 1, 1, 0, 0, 1, 0);
         Due.is("run(2)", yard.run(2), 2);
         Due.task(yard, 1, DONE, 1, 2, 1, 3);
         Due.task(yard, 3, DONE, 1, 2, 1, 3);
-        gate(yard, 1, 1, 0, 0, 1, 0);
+        Due.gate(yard, 1, 1, 0, 0, 1, 0);
     }
 
     private static void noticeInATurn() {
@@ -187,8 +181,8 @@ public final class GateTest {
         Due.is("run(1)", yard.run(1), 1);
         Due.is("turn(2)", yard.turn(2), 1);
         Due.worker(yard, 2, 0);
-        gate(yard, 0, 1, 0, 0, 1, 0);
-        gate(yard, 1, 1, 0, 0, 0, 0);
+        Due.gate(yard, 0, 1, 0, 0, 1, 0);
+        Due.gate(yard, 1, 1, 0, 0, 0, 0);
 
         // a task that wakes itself is noted
         yard = new PollYard();
@@ -208,9 +202,9 @@ public final class GateTest {
         yard.spawn(0);
         yard.spawn(1);
         Due.is("run(4)", yard.run(4), 4);
-        gate(yard, 0, 0, 4, 1, 0, 2);
+        Due.gate(yard, 0, 0, 4, 1, 0, 2);
         Due.is("abort(1)", yard.abort(1), true);
-        gate(yard, 0, 0, 3, 1, 0, 1);
+        Due.gate(yard, 0, 0, 3, 1, 0, 1);
         Due.is("put(0, 4)", yard.put(0, 4), 0);
         Due.injector(yard, 0, 2, 3);
         Due.is("wake(0)", yard.wake(0), 1);

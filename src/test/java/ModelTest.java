@@ -13,8 +13,6 @@ public final class ModelTest {
     private final PollYard yard = new PollYard();
     private final Model model = new Model();
     private int calls = 0;
-    /** A program has no WITHIN and CATCH together: what one that failed beneath the other does is a reading (README). */
-    private int withinOrCatch = 13;
 
     private ModelTest(int run) {
         this.run = run;
@@ -55,7 +53,6 @@ public final class ModelTest {
     }
 
     private void defineOne() {
-        withinOrCatch = random.nextBoolean() ? 13 : 15;
         appendFuture(1 + random.nextInt(12));
         define();
     }
@@ -66,7 +63,6 @@ public final class ModelTest {
             return;
         }
         int op = WHOLES[random.nextInt(WHOLES.length)];
-        op = op == 13 || op == 15 ? withinOrCatch : op;
         boolean pair = op == TWO_PARTS[0] || op == TWO_PARTS[1] || op == TWO_PARTS[2];
         if (pair && tokens == 2) {
             op = 8;
