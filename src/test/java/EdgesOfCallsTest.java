@@ -277,7 +277,9 @@ public final class EdgesOfCallsTest {
         Due.task(yard, 0, IDLE, 0, 1);
     }
 
-    /** Promise 8: "neither READY nor DROPPED": by these words one that FAILED, beneath a CATCH, still wakes its task. */
+    /**
+     * Promise 8: "neither READY nor DROPPED": by these words one that FAILED, beneath a CATCH, still wakes its task.
+     */
     private static void tickOfFailed() {
         PollYard yard = new PollYard();
         Due.spawn(yard, "THEN CATCH WITHIN 4 THEN WAIT 0 FAIL 2 WAIT 1");

@@ -68,7 +68,10 @@ public final class EdgesOfFuturesTest {
         Due.is("gate(0, 0)", yard.gate(0, 0), 0);
     }
 
-    /** "One that is READY or FAILED is not polled any more": FAILED, in a CATCH that is a part of what is polled again. */
+    /**
+     * "One that is READY or FAILED is not polled any more": FAILED, in a CATCH that is a part of what is polled
+     * again.
+     */
     private static void failedIsNotPolledAgain() {
         PollYard yard = new PollYard();
         Due.spawn(yard, "BOTH CATCH THEN PUT 0 FAIL 5 THEN TURN 2 GIVE 100");

@@ -129,7 +129,9 @@ public final class EdgesOfWorkersTest {
         Due.task(yard, 0, IDLE, 0, 3, 0, 4, 0);
     }
 
-    /** "those that REAP it and wait for that are woken, by numbers": once each, in what order ever they began to wait. */
+    /**
+     * "those that REAP it and wait for that are woken, by numbers": once each, in what order ever they began to wait.
+     */
     private static void reapersByNumber() {
         PollYard yard = new PollYard();
         Due.spawn(yard, "THEN SLEEP 2 FAIL 5");
@@ -158,7 +160,9 @@ public final class EdgesOfWorkersTest {
         Due.injector(yard, 0, 11);
     }
 
-    /** "those that REAP it and wait for that": not one whose X is pending, whose REAP is dropped, or of another task. */
+    /**
+     * "those that REAP it and wait for that": not one whose X is pending, whose REAP is dropped, or of another task.
+     */
     private static void reapersThatDoNotWait() {
         PollYard yard = new PollYard();
         Due.spawn(yard, "SLEEP 3");
@@ -189,7 +193,10 @@ public final class EdgesOfWorkersTest {
         }
     }
 
-    /** "a RING of at most 4", "If a RING that should take one has 4: its first two, then that one, go to .. the INJECTOR" */
+    /**
+     * "a RING of at most 4", "If a RING that should take one has 4: its first two, then that one, go to .. the
+     * INJECTOR"
+     */
     private static void ringHasFour() {
         PollYard yard = spawned(0, 5, "GIVE 1");
         Due.worker(yard, 0, 5, 1, 2, 3, 4);
@@ -256,7 +263,9 @@ public final class EdgesOfWorkersTest {
         }
     }
 
-    /** "If that is a multiple of 5, and the INJECTOR is not empty: its first one.": before slot and ring; at 5 and 10. */
+    /**
+     * "If that is a multiple of 5, and the INJECTOR is not empty: its first one.": before slot and ring; at 5 and 10.
+     */
     private static void fifthTurn() {
         PollYard yard = new PollYard();
         Due.program(yard, "SLEEP 9");

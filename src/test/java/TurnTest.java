@@ -25,7 +25,9 @@ public final class TurnTest {
         Due.end();
     }
 
-    /** A task of worker w that leaves this many others, of GIVE, queued: the last in the slot, the others in the ring. */
+    /**
+     * A task of worker w that leaves this many others, of GIVE, queued: the last in the slot, the others in the ring.
+     */
     private static PollYard withSpawned(int w, int others) {
         PollYard yard = new PollYard();
         Due.program(yard, "GIVE 1");
